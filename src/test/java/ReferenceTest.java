@@ -228,7 +228,7 @@ public final class ReferenceTest {
     /** Edges for the runs: most of them round a random heap of cells, some of them wrong. */
     private static final class Shapes {
         static int[] edge(Dice dice) {
-            int[] edge = dice.oneIn(6) ? pocket(dice) : heap(dice);
+            int[] edge = dice.oneIn(4) ? pocket(dice) : heap(dice);
             if (dice.oneIn(25)) {
                 return backwards(edge);
             }
@@ -243,7 +243,9 @@ public final class ReferenceTest {
 
         private static int[] pocket(Dice dice) {
             String[] known = {"010301122233", "0001221233", "00012211000122223333", "000111222333", "0001222233301112",
-                "001100332211223300332211", "0111012223333300", "00112233", "0000111122332233"};
+                "001100332211223300332211", "0111012223333300", "00112233", "0000111122332233",
+                "01010101010112323232323233", "00000000000122222222221233", "0000000000000122222222222223",
+                "0111122233010333", "0000000111111122222223333333"};
             String text = known[dice.below(known.length)];
             int[] edge = new int[text.length()];
             int first = dice.below(edge.length);
