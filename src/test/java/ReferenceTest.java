@@ -166,6 +166,10 @@ public final class ReferenceTest {
         }
 
         private long call(String name, int... with) {
+            // What an object answers after so many calls is free.
+            if (calls == CALLS) {
+                return -1;
+            }
             calls++;
             String text = name + Arrays.toString(with);
             String want = outcome(() -> model.answer(name, with));
