@@ -8,9 +8,11 @@ public final class Promise10JoinTest {
         overlapsOfOneCell();
         overlapsWithA();
         overlapsInATree();
+        overlapsFarFromTheFirst();
         otherTreesDoNotMatter();
         justSo();
         otherwise();
+        otherwiseByQuartersAlone();
         otherwiseAheadOfOverlap();
         loops();
         theWholeTreeMoves();
@@ -116,6 +118,26 @@ public final class Promise10JoinTest {
         Checks.changesNothing("10 another of b's tree would overlap", Promise10JoinTest::squareAndTree, y -> y.join(k));
     }
 
+    private static void overlapsFarFromTheFirst() {
+        EdgeJoins x = Trees.stairs(5);
+        // Round the end of the fifth, and onto a cell of it.
+        int claw = Sherds.closed(x, "0112223333011103");
+        Sherds.heights(x, claw, 0, 60, 60, 60, 60, 60, 60, 60, 60, 60, 60, 60, 70, 71, 72, 0);
+        x.height(4, 17, 70);
+        x.height(4, 16, 71);
+        x.height(4, 15, 72);
+        Checks.due("10 two for each two stairs, and the claw", x.run(), 21);
+        Sherds.pairIs("10 the claw", x, 0, 4, 13, claw, 0, 5, 0);
+        // Behind it 8 pairs have a = 0, then come 6, 4 and 2; each time the first one.
+        for (int k : new int[] {1, 9, 15, 19}) {
+            Checks.due("10 stairs", x.join(k), 0);
+        }
+        Sherds.placeIs("10 the fifth", x, 4, 24, 24, 0, 0);
+        Checks.due("10 the claw would overlap", x.join(0), 1);
+        Sherds.placeIs("10 the claw stays", x, claw, 0, 0, 0, claw);
+        Checks.due("10 four joins", x.count(3), 4);
+    }
+
     private static void otherTreesDoNotMatter() {
         EdgeJoins x = Sherds.listed(Sherds.SQUARE_2, Sherds.SQUARE_2, Sherds.SQUARE_2, Sherds.UPRIGHT);
         Checks.due("10 unmoved ones lie on one another", Sherds.join(x, 0, 2, 1, 7), 0);
@@ -155,6 +177,19 @@ public final class Promise10JoinTest {
         Sherds.placeIs("10 at the post's middle", z, 1, 1, 1, 0, 0);
         Checks.due("10 a step up", Sherds.join(z, 0, 1, 1, 7), 2);
         Checks.due("10 a step down", Sherds.join(z, 0, 3, 1, 7), 2);
+    }
+
+    private static void otherwiseByQuartersAlone() {
+        // The second square's first corner is its lower left one: above the first square and left of it, it is at 0, 0.
+        EdgeJoins x = Sherds.listed(Sherds.SQUARE_2, Sherds.from(6, Sherds.SQUARE_2));
+        Checks.due("10 above the first", Sherds.join(x, 0, 0, 1, 7), 0);
+        Sherds.placeIs("10 above the first", x, 1, 0, 0, 0, 0);
+        Checks.due("10 left of it, with the same first corner", Sherds.join(x, 0, 6, 1, 1), 2);
+        Checks.due("10 just so", Sherds.join(x, 0, 0, 1, 7), 3);
+        x.undo();
+        Checks.due("10 left of the first", Sherds.join(x, 0, 6, 1, 1), 0);
+        Sherds.placeIs("10 left of the first", x, 1, 0, 0, 2, 0);
+        Checks.due("10 above it, with the same first corner", Sherds.join(x, 0, 0, 1, 7), 2);
     }
 
     private static void otherwiseAheadOfOverlap() {

@@ -17,6 +17,7 @@ public final class Promise13HolesTest {
         onlyItsOwnTree();
         undone();
         wideTree();
+        widestTree();
         noSuchSherd();
         changesNothing();
         Checks.end("promise 13");
@@ -170,6 +171,20 @@ public final class Promise13HolesTest {
         Checks.due("13 in the claw", x.holes(0), 1);
         x.undo();
         Checks.due("13 the claw alone", x.holes(5), 0);
+    }
+
+    private static void widestTree() {
+        EdgeJoins x = Trees.stairs(6);
+        Checks.due("13 two for each two stairs", x.run(), 30);
+        // 10 pairs have a = 0, then come 8, 6, 4 and 2; each time the first one.
+        int[] following = {0, 10, 18, 24, 28};
+        for (int s = 0; s < 5; s++) {
+            Sherds.pairIs("13 one behind the other", x, following[s], s, 13, s + 1, 0, 2, 0);
+            Checks.due("13 one behind the other", x.join(following[s]), 0);
+        }
+        Sherds.placeIs("13 the last one", x, 5, 30, 30, 0, 0);
+        Checks.due("13 no hole in the widest tree", x.holes(0), 0);
+        Checks.due("13 no hole in the widest tree", x.holes(5), 0);
     }
 
     private static void noSuchSherd() {

@@ -124,6 +124,7 @@ final class Tale {
             tell("step(" + s + ", 3)", () -> x.step(s, 3));
             tell("close(" + s + ") behind it", () -> x.close(s));
         }
+        heights(x);
     }
 
     private void joined(EdgeJoins x) {
@@ -137,7 +138,10 @@ final class Tale {
 
     private void filled(EdgeJoins x) {
         for (int sherd = 0; sherd < 7; sherd++) {
+            int s = sherd;
             tell("sherd()", x::sherd);
+            tell("step(" + s + ", 0)", () -> x.step(s, 0));
+            tell("height(" + s + ", 0, 0)", () -> x.height(s, 0, 0));
         }
         layout(x);
     }

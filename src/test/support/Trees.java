@@ -23,6 +23,25 @@ final class Trees {
         return x;
     }
 
+    /**
+     * So many stairs of 28 steps and 7 * 7 cells, which can't reach farther when they are joined: the first
+     * cell of each (steps 27, 0) fits into a corner at the end of another (steps 13, 14), and nothing else fits.
+     */
+    static EdgeJoins stairs(int sherds) {
+        EdgeJoins x = new EdgeJoins();
+        for (int s = 0; s < sherds; s++) {
+            Sherds.closed(x, "00" + "10".repeat(5) + "121233" + "23".repeat(5));
+            for (int at = 1; at < 27; at++) {
+                if (at != 13 && at != 14) {
+                    x.height(s, at, 10 * (s + 1));
+                }
+            }
+        }
+        x.least(2);
+        x.bound(0);
+        return x;
+    }
+
     /** A lone square 1, and a square 0 with an upright 2 lying on its upper side. */
     static EdgeJoins turnedTree() {
         EdgeJoins x = Sherds.listed(Sherds.SQUARE_2, Sherds.SQUARE_2, Sherds.UPRIGHT);
