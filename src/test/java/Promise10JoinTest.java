@@ -128,9 +128,17 @@ public final class Promise10JoinTest {
         x.height(4, 15, 72);
         Checks.due("10 two for each two stairs, and the claw", x.run(), 21);
         Sherds.pairIs("10 the claw", x, 0, 4, 13, claw, 0, 5, 0);
-        // Behind it 8 pairs have a = 0, then come 6, 4 and 2; each time the first one.
+        // Behind it 8 pairs have a = 0, then come 6, 4 and 2: half of them go up, behind those that go down.
+        for (int k : new int[] {5, 12, 17, 20}) {
+            Checks.due("10 stairs up", x.join(k), 0);
+        }
+        Sherds.placeIs("10 the fifth, up there", x, 4, -24, -24, 0, 0);
+        // A tree that lay the other way leaves nothing that the next one would be looked at with.
+        for (int k = 0; k < 4; k++) {
+            Checks.due("10 undone", x.undo(), true);
+        }
         for (int k : new int[] {1, 9, 15, 19}) {
-            Checks.due("10 stairs", x.join(k), 0);
+            Checks.due("10 stairs down", x.join(k), 0);
         }
         Sherds.placeIs("10 the fifth", x, 4, 24, 24, 0, 0);
         Checks.due("10 the claw would overlap", x.join(0), 1);

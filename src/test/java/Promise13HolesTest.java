@@ -168,7 +168,9 @@ public final class Promise13HolesTest {
         Sherds.pairIs("13 the claw", x, 48, 4, 11, 5, 15, 2, 0);
         Checks.due("13 the claw", x.join(48), 0);
         Sherds.placeIs("13 the claw", x, 5, 30, 25, 0, 0);
-        Checks.due("13 in the claw", x.holes(0), 1);
+        for (int time = 0; time < 60; time++) {
+            Checks.due("13 in the claw, however often it is asked", x.holes(0), 1);
+        }
         x.undo();
         Checks.due("13 the claw alone", x.holes(5), 0);
     }
